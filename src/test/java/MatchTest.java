@@ -5,6 +5,7 @@ public final class MatchTest {
 
     public static void main(String[] args) {
         plain();
+        dropped();
         loose();
         early();
         greedy();
@@ -22,8 +23,9 @@ public final class MatchTest {
     }
 
     private static void brings(RoutesByTries x, String path, int end, int looked) {
-        due.is("match(" + path + ")", x.match(Due.path(path), 0), end);
+        x.match(340, 0);
         due.is("looked(" + path + ")", x.looked(Due.path(path), 0), looked);
+        due.is("match(" + path + ")", x.match(Due.path(path), 0), end);
     }
 
     private static void plain() {
@@ -42,6 +44,27 @@ public final class MatchTest {
         brings(y, "aa", -9, 2);
         y.drops(0);
         brings(y, "a", 1, 2);
+    }
+
+    private static void dropped() {
+        RoutesByTries x = Due.told("r00/a;r00/b;r00/c;r00/d/*;m01/b/b;m01/a/c;r10/d;");
+        x.drops(0);
+        brings(x, "b", 1, 2);
+        brings(x, "c", 2, 2);
+        brings(x, "d", 3, 2);
+        x.drops(1);
+        brings(x, "c", 2, 2);
+        brings(x, "b", -9, 2);
+        brings(x, "cd", -9, 2);
+        x.drops(2);
+        brings(x, "dd", 3, 2);
+        brings(x, "bbd", 6, 5);
+        x.drops(3);
+        brings(x, "bd", -9, 2);
+        brings(x, "bbd", 6, 5);
+        x.drops(4);
+        brings(x, "acd", 6, 5);
+        brings(x, "bbd", -9, 1);
     }
 
     private static void loose() {
@@ -169,6 +192,11 @@ public final class MatchTest {
         due.is("a rest of none", x.bound(Due.path("ad"), 0, 4), 0);
         due.is("without parameters", x.bound(2, 0, 0), -9);
         due.is("without rest", x.bound(2, 0, 4), -9);
+        RoutesByTries y = Due.told("r10/:0/*;m01/:1/d;");
+        int[] wantFirst = {0, 2, -9, -9, 1, 1};
+        for (int i = 0; i < wantFirst.length; i++) {
+            due.is("bound(cdad, " + i + ")", y.bound(Due.path("cdad"), 0, i), wantFirst[i]);
+        }
     }
 
     private static void boundByMounts() {
@@ -231,6 +259,7 @@ public final class MatchTest {
         due.is("never by PUT", x.never(), 8);
         due.is("never of none", new RoutesByTries().never(), 0);
         due.is("a mount is no end", Due.told("m01;").never(), 0);
+        due.is("by the empty path", Due.told("r00;").never(), 0);
     }
 
     private static void matched() {

@@ -15,6 +15,7 @@ public final class OddsTest {
     private static void best() {
         RoutesByTries x = Due.told("r00/*;r00/a/b;");
         due.is("greedy looks at least", x.best(0), 3);
+        due.is("kind stays for a match", x.looked(Due.path("ab"), 0) * 10 + x.match(Due.path("ab"), 0), 31);
         due.is("a router never looked at", x.best(1), 0);
         due.is("nothing changes", x.kind(0, 5, 0), 0);
         due.is("nor when it was short", x.best(0), 3);
@@ -138,6 +139,9 @@ public final class OddsTest {
         rows(x, 3, 99, 99, 2);
         due.is("another router, all so", x.whatIs(1, 0), 63);
         due.is("another router's figures", x.whatIs(1, 1), 1023);
+        rows(x, 99);
+        due.is("not so from the first on", x.whatIs(0, 0), 0);
+        due.is("by no figure", x.whatIs(0, 1), 0);
         rows(x, 3, 50);
         due.is("never so", x.whatIs(0, 0), 0);
         due.is("kind stays", x.kind(0, 0, 0), 52);

@@ -93,6 +93,8 @@ public final class PairsTest {
         due.is("without a way", x.build(2, 0, 0, 0, 0), -9);
         x.drops(4);
         due.is("a mount without a way", x.build(1, 0, 0, 0, 0), -9);
+        RoutesByTries z = Due.told("r10/a;r00;r00;r00;r00;r00;r00;r00;r00;m01/c;");
+        due.is("by the last mount", z.build(0, 0, 0, 0, 0), Due.path("ca"));
         RoutesByTries y = Due.told("m01/a/<0/:1;m12/b;r20;r20/d;r20/:0;r20/*;m02;");
         due.is("as long as may be", y.build(2, 1, 3, 0, 0), Due.path("abdb"));
         due.is("too long", y.build(3, 1, 3, 0, 0), -9);
@@ -113,6 +115,9 @@ public final class PairsTest {
         due.is("back(8)", x.back(8), -1);
         due.is("back(-1)", x.back(-1), -1);
         due.is("some bring another", Due.told("r00/a/:0;r00/:0/:1;").back(1), 192);
+        due.is("the empty path", Due.told("r00;").back(0), 256);
+        due.is("each parameter", Due.told("r00/<2/>3/<1/>0;").back(0), 16);
+        due.is("three of one, one of another", Due.told("r00/:2/a;r00/<2/:0;k010;").back(1), 96);
         due.is("by HEAD", Due.told("r01/>0;r00/d;r01/c;").back(0), 0);
         due.is("by PUT", Due.told("r02/>0;r00/c;").back(0), 128);
         due.refusals("back", x, 3, 0, 1, 0, 0, 0);

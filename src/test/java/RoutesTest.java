@@ -23,6 +23,8 @@ public final class RoutesTest {
         whatRouteIs(x, 2, 2, 0, -9, 0, 0, 0);
         whatRouteIs(x, 3, 1, -9, 2, 0, 0, 0);
         whatRouteIs(x, 4, 0, 2, -9, 3, 2, 0);
+        whatRouteIs(Due.told("r00/<0;"), 0, 0, 0, -9, 1, 1, 0);
+        whatRouteIs(Due.told("r00/:3/>0;"), 0, 0, 0, -9, 2, 9, 0);
         due.is("route(5, 9)", x.route(5, 9), -1);
         due.is("route(-1, 0)", x.route(-1, 0), -1);
         due.is("route(0, 6)", x.route(0, 6), -2);

@@ -142,6 +142,8 @@ public final class TellingTest {
         sense("r00/>4;", 0);
         sense("r00/:1/a/>1;", 0);
         sense("r00/<2/:2;", 0);
+        sense("r00/<0/<0;", 0);
+        sense("r00/:0/a/b/<0;", 0);
         sense("r00/*/a;", 0);
         sense("r00/*/*;", 0);
         sense("r00/a/a/a/a/a;", 0);
