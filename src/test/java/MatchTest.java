@@ -52,6 +52,7 @@ public final class MatchTest {
         brings(x, "b", 1, 2);
         brings(x, "c", 2, 2);
         brings(x, "d", 3, 2);
+        brings(x, "ad", -9, 2);
         x.drops(1);
         brings(x, "c", 2, 2);
         brings(x, "b", -9, 2);

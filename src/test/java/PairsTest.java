@@ -116,6 +116,9 @@ public final class PairsTest {
         due.is("back(-1)", x.back(-1), -1);
         due.is("some bring another", Due.told("r00/a/:0;r00/:0/:1;").back(1), 192);
         due.is("the empty path", Due.told("r00;").back(0), 256);
+        due.is("not both a, 0 and 1", Due.told("r00/a/a;r00/:0/:1;").back(1), 240);
+        due.is("not both a, 1 and 2", Due.told("r00/a/a;r00/:1/:2;").back(1), 240);
+        due.is("not both a, 2 and 3", Due.told("r00/a/a;r00/:2/:3;").back(1), 240);
         due.is("each parameter", Due.told("r00/<2/>3/<1/>0;").back(0), 16);
         due.is("three of one, one of another", Due.told("r00/:2/a;r00/<2/:0;k010;").back(1), 96);
         due.is("by HEAD", Due.told("r01/>0;r00/d;r01/c;").back(0), 0);
@@ -137,6 +140,10 @@ public final class PairsTest {
         due.is("a strict one", x.match(Due.path("a"), 0), -9);
         due.is("without the node", x.without(0, Due.path("a"), 0), 1);
         due.is("without another", x.without(1, Due.path("a"), 0), -9);
+        RoutesByTries y = Due.told("r00/a;r00/b;r00/c/d;r00/:0/*;k040;");
+        y.drops(0);
+        due.is("without the node behind a dropped one", y.without(2, Due.path("c"), 0), 3);
+        due.is("with it", y.without(1, Due.path("c"), 0), -9);
         due.is("without(5, 341, 4)", x.without(5, 341, 4), -1);
         due.is("without(0, 341, 4)", x.without(0, 341, 4), -1);
         due.is("without(5, 0, 4)", x.without(5, 0, 4), -1);

@@ -247,7 +247,9 @@ public final class TellingTest {
             due.is("copy: route(3, " + i + ")", x.route(3, i), want[i]);
         }
         due.is("copy: segment(3, 1)", x.segment(3, 1), 31);
+        due.is("nodes by a copy", x.nodes(2), 3);
         due.is("copies(2, 1)", x.copies(2, 1), 4);
+        due.is("match by copies", x.match(Due.path("bcaa"), 2), 3);
         due.is("copied mount", x.route(4, 2), 2);
         due.is("copied mount's router", x.route(4, 0), 1);
         due.is("the old one stays", x.route(2, 0), 0);
