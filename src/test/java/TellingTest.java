@@ -71,8 +71,16 @@ public final class TellingTest {
     }
 
     private static void form(String text, int place) {
+        fault(text, -1000 - place);
+    }
+
+    private static void sense(String text, int place) {
+        fault(text, -2000 - place);
+    }
+
+    private static void fault(String text, int want) {
         RoutesByTries x = new RoutesByTries();
-        due.is("form of " + text, Due.tell(x, text), -1000 - place);
+        due.is("fault of " + text, Due.tell(x, text), want);
         due.is("letters of " + text, x.count(6), 0);
         due.is("routes of " + text, x.count(0), 0);
         due.refusals("fault of " + text, x, 0, 0, 0, 0, 0, 0);
@@ -123,14 +131,6 @@ public final class TellingTest {
         form("r00/a/a/a/a/a/a/a/a/a/a/a/a/a/a/a/a/a/a/a/a/a/a/a/a/a/a/a/a/a/a/a/a/a/a/a/a/a/a/a/a/a/a/a/a/a/a/", 96);
         form("r00" + (char) 176 + ";", 3);
         form((char) 0 + "", 0);
-    }
-
-    private static void sense(String text, int place) {
-        RoutesByTries x = new RoutesByTries();
-        due.is("sense of " + text, Due.tell(x, text), -2000 - place);
-        due.is("letters of " + text, x.count(6), 0);
-        due.is("routes of " + text, x.count(0), 0);
-        due.refusals("fault of " + text, x, 0, 0, 0, 0, 0, 0);
     }
 
     private static void faultsOfSense() {
