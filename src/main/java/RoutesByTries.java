@@ -30,9 +30,6 @@ public final class RoutesByTries {
     private static final int ALL = 3;
 
     private static final int KINDS = 6;
-    private static final int LOOSE = 1;
-    private static final int EARLY = 2;
-    private static final int GREEDY = 3;
     private static final int STRICT = 4;
     private static final int SHORT = 5;
 
@@ -47,7 +44,7 @@ public final class RoutesByTries {
     private final Walk walk = new Walk();
     private final Pile told = new Pile(MOST_TOLD);
     private final Pile row = new Pile(MOST_IN_ROW);
-    private final Path built = new Path();
+    private final Pile built = new Pile(MOST_LETTERS);
     private final int[] given = new int[PARAMETERS];
     private final int[] refusals = new int[7];
     private boolean hasImage;
@@ -183,7 +180,7 @@ public final class RoutesByTries {
         if (!isPath(path)) {
             return refuse(NOBODY);
         }
-        walk.path.read(path);
+        Paths.read(path, walk.path);
         if (i < -1 || i >= walk.path.size) {
             return refuse(NOBODY);
         }
@@ -297,7 +294,7 @@ public final class RoutesByTries {
         Route first = book.at(a);
         Route second = book.at(b);
         for (int path = 0; path < PATHS; path++) {
-            walk.path.read(path);
+            Paths.read(path, walk.path);
             if (first.takes(walk.path) && second.takes(walk.path)) {
                 return path;
             }
@@ -578,7 +575,7 @@ public final class RoutesByTries {
         built.size = 0;
         Route own = book.at(end);
         boolean whole = layWay(own.router, 0) && lay(own);
-        return whole ? built.number() : NONE;
+        return whole ? Paths.numberOf(built) : NONE;
     }
 
     private boolean layWay(int router, int depth) {
@@ -750,49 +747,30 @@ public final class RoutesByTries {
         }
     }
 
-    /** The LETTERS of a PATH. */
-    private static final class Path {
+    /** PATHS by their numbers and as piles of LETTERS. */
+    private static final class Paths {
         private static final int[] FIRST_OF_SIZE = {0, 1, 5, 21, 85};
 
-        private final int[] letters = new int[MOST_LETTERS];
-        private int size;
-
-        void read(int number) {
-            size = 0;
+        static void read(int number, Pile letters) {
+            int size = 0;
             for (int i = 1; i < FIRST_OF_SIZE.length; i++) {
                 if (number >= FIRST_OF_SIZE[i]) {
                     size = i;
                 }
             }
             int code = number - numberAt(FIRST_OF_SIZE, size);
+            letters.size = 0;
             for (int i = size - 1; i >= 0; i--) {
-                put(letters, i, code & 3);
-                code >>= 2;
+                letters.add(code >> 2 * i & 3);
             }
         }
 
-        int number() {
+        static int numberOf(Pile letters) {
             int code = 0;
-            for (int i = 0; i < size; i++) {
-                code = code * 4 + numberAt(letters, i);
+            for (int i = 0; i < letters.size; i++) {
+                code = code * 4 + letters.at(i);
             }
-            return numberAt(FIRST_OF_SIZE, size) + code;
-        }
-
-        boolean isFull() {
-            return size >= MOST_LETTERS;
-        }
-
-        void add(int letter) {
-            if (!isFull()) {
-                put(letters, size, letter);
-                size++;
-            }
-        }
-
-        int at(int place) {
-            boolean known = place >= 0 && place < size && place < letters.length;
-            return known ? letters[place] : NONE;
+            return numberAt(FIRST_OF_SIZE, letters.size) + code;
         }
     }
 
@@ -877,7 +855,7 @@ public final class RoutesByTries {
             return alike;
         }
 
-        boolean takes(Path path) {
+        boolean takes(Pile path) {
             boolean goesOn = hasRest() || isMount();
             boolean taken = goesOn ? path.size >= plain : path.size == plain;
             for (int i = 0; taken && i < plain; i++) {
@@ -1303,9 +1281,19 @@ public final class RoutesByTries {
     private static final class Walk {
         // Four LETTERS and two MOUNTS behind the first ROOT.
         private static final int DEEPEST = 6;
+        private static final char NO_STEP = ' ';
+        private static final int STEPS = 7;
+        // An array, since a text might be made anew at every NODE.
+        private static final char[] ORDERS = {
+            'E', 'L', 'C', 'A', 'R', 'M', ' ', // PLAIN
+            'E', 'L', 'A', 'C', 'R', 'M', ' ', // LOOSE
+            'M', 'E', 'L', 'C', 'A', 'R', 'M', // EARLY
+            'R', 'E', 'L', 'A', 'C', 'R', 'M', // GREEDY
+            'E', 'L', 'C', 'A', 'R', 'M', ' ', // STRICT
+            'E', 'L', 'C', 'A', 'R', 'M', ' '}; // SHORT
 
         private final Trie trie = new Trie();
-        private final Path path = new Path();
+        private final Pile path = new Pile(MOST_LETTERS);
         private final int[] trail = new int[ROUTERS];
         private final int[] starts = new int[ROUTERS];
         private int verb;
@@ -1318,7 +1306,7 @@ public final class RoutesByTries {
 
         /** The END that comes if of all ROUTES those of the bits are THERE. */
         int bring(int number, int asked, int there) {
-            path.read(number);
+            Paths.read(number, path);
             verb = asked;
             present = there;
             seen = 0;
@@ -1347,9 +1335,8 @@ public final class RoutesByTries {
                 return NONE;
             }
             boolean strict = kind == STRICT || kind == SHORT;
-            String order = orderOf(kind);
-            for (int i = 0; i < order.length(); i++) {
-                int step = order.charAt(i);
+            for (int i = 0; i < STEPS; i++) {
+                int step = stepOf(kind, i);
                 int next = nextBy(step, node, at);
                 int found;
                 if (next >= 0) {
@@ -1369,17 +1356,9 @@ public final class RoutesByTries {
             return NONE;
         }
 
-        private static String orderOf(int kind) {
-            switch (kind) {
-                case LOOSE:
-                    return "ELACRM";
-                case EARLY:
-                    return "MELCARM";
-                case GREEDY:
-                    return "RELACRM";
-                default:
-                    return "ELCARM";
-            }
+        private static int stepOf(int kind, int place) {
+            int found = kind * STEPS + place;
+            return found >= 0 && found < ORDERS.length ? ORDERS[found] : NO_STEP;
         }
 
         private int nextBy(int step, int node, int at) {

@@ -1,6 +1,7 @@
-/** Counts the answers that are due and prints those that are not. */
+/** Counts the answers that are due and prints those that are not, behind the sentence that wants them. */
 final class Due {
     private final String name;
+    private String sentence = "";
     private int passed;
     private int failed;
 
@@ -8,12 +9,25 @@ final class Due {
         this.name = name;
     }
 
+    /** The sentence of the document that the next answers are due by. */
+    void by(String words) {
+        sentence = " [" + words + "]";
+    }
+
     void is(String call, long got, long want) {
-        if (got == want) {
+        hold(got == want, call + " answered " + got + ", due is " + want);
+    }
+
+    void same(String what, String got, String want) {
+        hold(got.equals(want), what + " there is" + got + "\ndue is" + want);
+    }
+
+    private void hold(boolean holds, String fault) {
+        if (holds) {
             passed++;
         } else {
             failed++;
-            System.out.println(name + ": " + call + " answered " + got + ", due is " + want);
+            System.out.println(name + sentence + ": " + fault);
         }
     }
 

@@ -183,51 +183,9 @@ public final class OracleTest {
 
     private static long compare(String name, int... a) {
         calls++;
-        StringBuilder told = new StringBuilder("run " + run + ", call " + calls + ": " + name + "(");
-        for (int i = 0; i < a.length; i++) {
-            told.append(i == 0 ? "" : ", ").append(a[i]);
-        }
+        String told = "run " + run + ", call " + calls + ": " + Calls.told(name, a);
         long want = oracle.call(name, a);
-        due.is(told + ")", given(name, a), want);
+        due.is(told, Calls.call(x, name, a), want);
         return want;
-    }
-
-    private static long given(String name, int[] a) {
-        switch (name) {
-            case "letter": return x.letter(a[0]);
-            case "table": return x.table();
-            case "kind": return x.kind(a[0], a[1], a[2]);
-            case "verb": return x.verb(a[0], a[1]);
-            case "drops": return x.drops(a[0]);
-            case "copies": return x.copies(a[0], a[1]);
-            case "route": return x.route(a[0], a[1]);
-            case "segment": return x.segment(a[0], a[1]);
-            case "nodes": return x.nodes(a[0]);
-            case "letterOf": return x.letterOf(a[0], a[1]);
-            case "match": return x.match(a[0], a[1]);
-            case "bound": return x.bound(a[0], a[1], a[2]);
-            case "looked": return x.looked(a[0], a[1]);
-            case "verbs": return x.verbs(a[0]);
-            case "brought": return x.brought(a[0], a[1]);
-            case "never": return x.never();
-            case "matched": return x.matched(a[0]);
-            case "witness": return x.witness(a[0], a[1]);
-            case "clash": return x.clash(a[0]);
-            case "build": return x.build(a[0], a[1], a[2], a[3], a[4]);
-            case "back": return x.back(a[0]);
-            case "without": return x.without(a[0], a[1], a[2]);
-            case "best": return x.best(a[0]);
-            case "lost": return x.lost(a[0], a[1], a[2], a[3]);
-            case "mean": return x.mean(a[0], a[1]);
-            case "whatIs": return x.whatIs(a[0], a[1]);
-            case "row": return x.row(a[0]);
-            case "judge": return x.judge(a[0]);
-            case "clear": return x.clear();
-            case "lots": return x.lots(a[0], a[1], a[2]);
-            case "image": return x.image();
-            case "on": return x.on();
-            case "count": return x.count(a[0]);
-            default: throw new IllegalArgumentException(name);
-        }
     }
 }
