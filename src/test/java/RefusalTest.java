@@ -93,8 +93,8 @@ public final class RefusalTest {
         due.refusals("full", y, 0, 0, 0, 0, 0, 0);
     }
 
-    /** Promise 2: -4; -6 (255; 96, too). */
     private static void letters() {
+        due.by("Promise 2: -4; -6 (255; 96, too).");
         for (int c : new int[] {-1, LEAST}) {
             mixed.refuse(-4, "letter", c);
             full.refuse(-4, "letter", c);
@@ -108,8 +108,8 @@ public final class RefusalTest {
         }
     }
 
-    /** Promise 4: -1; -2; -4; -6 9. */
     private static void kinds() {
+        due.by("Promise 4: -1; -2; -4; -6 9.");
         int[] noKinds = {-1, 6, LEAST, GREATEST};
         for (int no : NO_ROUTERS) {
             mixed.refuse(-1, "kind", no, 0, 0);
@@ -129,8 +129,8 @@ public final class RefusalTest {
         }
     }
 
-    /** Promise 5: -1; -3 it is a MOUNT; -2. Promise 6: -1. */
     private static void routesChanged() {
+        due.by("Promise 5: -1; -3 it is a MOUNT; -2. Promise 6: -1.");
         for (int no : NO_ROUTES) {
             mixed.refuse(-1, "verb", no, 0);
             mixed.refuse(-1, "verb", no, 4);
@@ -147,8 +147,8 @@ public final class RefusalTest {
         }
     }
 
-    /** Promise 7: -1 either; -3 a MOUNT of no greater one; -6. */
     private static void copies() {
+        due.by("Promise 7: -1 either; -3 a MOUNT of no greater one; -6.");
         for (int no : NO_ROUTES) {
             mixed.refuse(-1, "copies", no, 0);
             mixed.refuse(-1, "copies", no, 3);
@@ -171,8 +171,8 @@ public final class RefusalTest {
         full.refuse(-6, "copies", 8, 1);
     }
 
-    /** Promise 8: -1; -2. Promise 9: -1 either. */
     private static void routesAsked() {
+        due.by("Promise 8: -1; -2. Promise 9: -1 either.");
         for (int no : NO_ROUTES) {
             mixed.refuse(-1, "route", no, 0);
             mixed.refuse(-1, "route", no, 6);
@@ -191,8 +191,8 @@ public final class RefusalTest {
         full.refuse(-1, "segment", 9, 0);
     }
 
-    /** Promise 11: -1 either. */
     private static void letterOf() {
+        due.by("Promise 11: -1 either.");
         for (int no : NO_PATHS) {
             mixed.refuse(-1, "letterOf", no, -1);
             mixed.refuse(-1, "letterOf", no, 0);
@@ -208,8 +208,8 @@ public final class RefusalTest {
         }
     }
 
-    /** Promises 12, 14: -1; -2. Promise 15: -1. */
     private static void pathsAsked() {
+        due.by("Promises 12, 14: -1; -2. Promise 15: -1.");
         for (String call : new String[] {"match", "looked"}) {
             for (int no : NO_PATHS) {
                 mixed.refuse(-1, call, no, 0);
@@ -225,8 +225,8 @@ public final class RefusalTest {
         }
     }
 
-    /** Promise 13: -1; -2 either; -3 it brings nothing. */
     private static void bound() {
+        due.by("Promise 13: -1; -2 either; -3 it brings nothing.");
         for (int no : NO_PATHS) {
             mixed.refuse(-1, "bound", no, 0, 0);
             mixed.refuse(-1, "bound", no, 4, 0);
@@ -247,8 +247,8 @@ public final class RefusalTest {
         }
     }
 
-    /** Promise 16: -1; -3 a MOUNT; -2. Promise 22: -1; -3 a MOUNT. */
     private static void brought() {
+        due.by("Promise 16: -1; -3 a MOUNT; -2. Promise 22: -1; -3 a MOUNT.");
         for (int no : NO_ROUTES) {
             mixed.refuse(-1, "brought", no, 0);
             mixed.refuse(-1, "brought", no, 2);
@@ -265,8 +265,8 @@ public final class RefusalTest {
         }
     }
 
-    /** Promises 18, 29: -2. Promise 20: -2. */
     private static void verbsAsked() {
+        due.by("Promises 18, 29: -2. Promise 20: -2.");
         for (int no : NO_VERBS) {
             mixed.refuse(-2, "matched", no);
             mixed.refuse(-2, "judge", no);
@@ -277,8 +277,8 @@ public final class RefusalTest {
         }
     }
 
-    /** Promise 19: -1 either (one twice, too). */
     private static void witness() {
+        due.by("Promise 19: -1 either (one twice, too).");
         for (int no : NO_ROUTES) {
             mixed.refuse(-1, "witness", no, 0);
             mixed.refuse(-1, "witness", 2, no);
@@ -289,8 +289,8 @@ public final class RefusalTest {
         }
     }
 
-    /** Promise 21: -1 the ROUTE, any of these; -3 a MOUNT. */
     private static void build() {
+        due.by("Promise 21: -1 the ROUTE, any of these; -3 a MOUNT.");
         for (int no : NO_ROUTES) {
             mixed.refuse(-1, "build", no, 0, 1, 2, 3);
             mixed.refuse(-1, "build", no, 0, 4, 2, 3);
@@ -308,8 +308,8 @@ public final class RefusalTest {
         }
     }
 
-    /** Promise 23: -1 either; -2. */
     private static void without() {
+        due.by("Promise 23: -1 either; -2.");
         for (int no : NO_ROUTES) {
             mixed.refuse(-1, "without", no, 0, 0);
             mixed.refuse(-1, "without", no, 0, 4);
@@ -324,8 +324,8 @@ public final class RefusalTest {
         }
     }
 
-    /** Promises 10, 24: -1. Promise 27: -1; -2. */
     private static void routersAsked() {
+        due.by("Promises 10, 24: -1. Promise 27: -1; -2.");
         for (int no : NO_ROUTERS) {
             mixed.refuse(-1, "nodes", no);
             mixed.refuse(-1, "best", no);
@@ -338,8 +338,8 @@ public final class RefusalTest {
         }
     }
 
-    /** Promise 25: refused as told: -1; -2 (VERB, part); -4; -6 20. Promise 26: -2 either. */
     private static void fractions() {
+        due.by("Promise 25: refused as told: -1; -2 (VERB, part); -4; -6 20. Promise 26: -2 either.");
         for (int no : NO_PATHS) {
             mixed.refuse(-1, "lost", no, 0, 2, 0);
             mixed.refuse(-1, "lost", no, 4, 1, 2);
@@ -368,8 +368,8 @@ public final class RefusalTest {
         }
     }
 
-    /** Promise 28: -4; -6 (99; 30, too). */
     private static void rows() {
+        due.by("Promise 28: -4; -6 (99; 30, too).");
         for (int v : new int[] {-1, LEAST}) {
             mixed.refuse(-4, "row", v);
             full.refuse(-4, "row", v);
@@ -383,8 +383,8 @@ public final class RefusalTest {
         }
     }
 
-    /** Promise 31: -4; -6 200; -2. */
     private static void lots() {
+        due.by("Promise 31: -4; -6 200; -2.");
         for (int what : new int[] {0, 1, -1, 2}) {
             for (int n : new int[] {0, -1, LEAST}) {
                 mixed.refuse(-4, "lots", n, 7, what);
@@ -399,14 +399,14 @@ public final class RefusalTest {
         }
     }
 
-    /** Promise 33: -3 there is none. */
     private static void image() {
+        due.by("Promise 33: -3 there is none.");
         fresh.refuse(-3, "on");
         full.refuse(-3, "on");
     }
 
-    /** Where no ROUTE ever came, every number of one is NOBODY's. */
     private static void nothingAtAll() {
+        due.by("Where no ROUTE ever came, every number of one is NOBODY's.");
         for (int route = 0; route < 10; route += 9) {
             fresh.refuse(-1, "verb", route, 0);
             fresh.refuse(-1, "drops", route);

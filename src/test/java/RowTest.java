@@ -71,10 +71,10 @@ public final class RowTest {
     }
 
     private static void lots() {
-        RoutesByTries x = Due.told("r00/a/*;r02/:0/*;r03/<0/>1;m01/d;r10/:0;");
         int[] seeds = {0, 1, -1, 77, Integer.MAX_VALUE, Integer.MIN_VALUE, 1013904223};
         int[] times = {1, 2, 3, 17, 100, 199, 200};
         for (int i = 0; i < seeds.length; i++) {
+            RoutesByTries x = Due.told("r00/a/*;r02/:0/*;r03/<0/>1;m01/d;r10/:0;");
             int many = 0;
             int looked = 0;
             seed = seeds[i];
@@ -91,12 +91,12 @@ public final class RowTest {
         RoutesByTries y = Due.told("r01/b/c/c/a;");
         due.is("lots(1, 0, 0) by hand", y.lots(1, 0, 0), 1);
         due.is("lots(1, 0, 1) by hand", y.lots(1, 0, 1), 5);
-        due.is("lots(0, 0, 2)", x.lots(0, 0, 2), -4);
-        due.is("lots(201, 0, 2)", x.lots(201, 0, 2), -6);
-        due.is("lots(1, 0, 2)", x.lots(1, 0, 2), -2);
-        due.is("lots(200, 0, -1)", x.lots(200, 0, -1), -2);
-        due.is("lots(least, 0, 0)", x.lots(Integer.MIN_VALUE, 0, 0), -4);
-        due.refusals("lots", x, 0, 2, 0, 2, 0, 1);
+        due.is("lots(0, 0, 2)", y.lots(0, 0, 2), -4);
+        due.is("lots(201, 0, 2)", y.lots(201, 0, 2), -6);
+        due.is("lots(1, 0, 2)", y.lots(1, 0, 2), -2);
+        due.is("lots(200, 0, -1)", y.lots(200, 0, -1), -2);
+        due.is("lots(least, 0, 0)", y.lots(Integer.MIN_VALUE, 0, 0), -4);
+        due.refusals("lots", y, 0, 2, 0, 2, 0, 1);
     }
 
     private static void image() {
