@@ -26,6 +26,8 @@ public final class AnswersEdgeTest {
         mean();
         whatIsKinds();
         whatIsFigures();
+        askedByAll();
+        behindChanges();
         nothingChanges();
         due.end();
     }
@@ -296,6 +298,9 @@ public final class AnswersEdgeTest {
         backs("r02/:0;r03/:0;", 1, 256);
         backs("r00/:0;r03/:0;", 1, 0);
         backs("r01/:0;r03/:0;", 1, 256);
+        due.by("22: what is not BUILT brings nothing, though the empty PATH brings this END");
+        backs("m01/<0;m01;r10/*;", 2, 128);
+        backs("m01/a/b/c/d;m01;r10/:0;r10/*;", 2, 0);
     }
 
     private static void without() {
@@ -347,6 +352,15 @@ public final class AnswersEdgeTest {
         bests("r00/a;k002;", 0, 5);
         bests("r00/a/b/c/d;k004;", 0, 0);
         bests("r00/a;k029;", 0, 0);
+        due.by("24: MATCHED by GET, LOOKED at by GET");
+        bests("r01/a;", 0, 5);
+        bests("r01/*;r00/a/a;k009;", 0, 0);
+        due.by("24: with least LOOKED at by all PATHS, where none is MATCHED by any KIND, too");
+        bests("r02/a;", 0, 5);
+        bests("r02/a;k009;", 0, 0);
+        bests("m01;", 0, 5);
+        bests("m01;k004;", 0, 0);
+        bests("r02/a/b;r02/:0/b;k009;", 0, 4);
     }
 
     private static void lostIs(RoutesByTries x, int path, int verb, int t, long above, long below) {
@@ -451,6 +465,15 @@ public final class AnswersEdgeTest {
         due.is("it stays", x.count(5), 30);
         rows(x, 0);
         due.is("not so from the first on, the ROW told by 0", x.whatIs(0, 0), 0);
+        due.by("27: by GET (99: nothing)");
+        RoutesByTries y = Due.told("r01/*;r02/*;");
+        rows(y, 99, 99);
+        due.is("nothing by GET, though HEAD and PUT bring an END", y.whatIs(0, 0), 63);
+        due.is("by every FIGURE", y.whatIs(0, 1), 1023);
+        rows(y, 0);
+        due.is("what HEAD brings", y.whatIs(0, 0), 0);
+        rows(y, 1);
+        due.is("what PUT brings", y.whatIs(0, 1), 0);
     }
 
     private static void whatIsFigures() {
@@ -481,6 +504,48 @@ public final class AnswersEdgeTest {
         due.is("a STRICT one, by any", x.whatIs(0, 1), 1023);
         due.is("of another ROUTER, by any", x.whatIs(2, 1), 1023);
         due.is("KIND and FIGURE as they were", x.kind(0, 0, 0), 47);
+    }
+
+    private static void askedByAll() {
+        due.by("VERBS: 3 ALL, asked for as any other");
+        RoutesByTries x = Due.told("r00/:1;r03/:0;r03/*;");
+        due.is("bound(b, ALL, 0)", x.bound(2, 3, 0), 1);
+        due.is("bound(b, ALL, 1)", x.bound(2, 3, 1), -9);
+        due.is("bound(bb, ALL, 4)", x.bound(Due.path("bb"), 3, 4), 2);
+        due.is("without(1, b, ALL)", x.without(1, 2, 3), 2);
+        due.is("without(2, b, ALL)", x.without(2, 2, 3), 1);
+        due.is("without(2, bb, ALL)", x.without(2, Due.path("bb"), 3), -9);
+        lostIs(x, 2, 3, 2, 3, 4);
+    }
+
+    /** What calls changed is what the next ones tell of. */
+    private static void behindChanges() {
+        due.by("20: CLASH behind VERBS changed and ROUTES copied");
+        RoutesByTries x = Due.told("r00/a;r02/a;");
+        due.is("clash(0)", x.clash(0), 0);
+        x.verb(1, 0);
+        due.is("clash(0) behind a verb", x.clash(0), 1);
+        x.copies(0, 1);
+        x.copies(1, 1);
+        due.is("clash(0) behind copies", x.clash(0), 2);
+        x.drops(0);
+        due.is("clash(1) behind a drop", x.clash(1), 2);
+        due.by("21: the WAY by a MOUNT copied");
+        RoutesByTries y = Due.told("m01/b;r10;");
+        y.copies(0, 0);
+        y.drops(0);
+        due.is("build by the copy", y.build(1, 0, 0, 0, 0), 2);
+        due.is("back by the copy", y.back(1), 256);
+        due.by("24: BEST leaves the KIND as it is");
+        RoutesByTries z = Due.told("r00/*;r00/a;k010;");
+        z.image();
+        z.kind(0, 3, 0);
+        due.is("best(0)", z.best(0), 3);
+        due.is("match(a) by GREEDY", z.match(1, GET), 0);
+        z.kind(0, 4, 0);
+        due.is("best(0) of a STRICT one", z.best(0), 3);
+        due.is("match(a) by STRICT", z.match(1, GET), 1);
+        due.is("KIND as it was", z.kind(0, 0, 0), 40);
     }
 
     /** What is asked changes nothing, whatever it answers. */

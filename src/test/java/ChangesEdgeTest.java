@@ -22,6 +22,7 @@ public final class ChangesEdgeTest {
         clear();
         lots();
         lotsBySeed();
+        manyLots();
         image();
         on();
         count();

@@ -366,6 +366,15 @@ public final class TermsEdgeTest {
         y.kind(1, 5, 0);
         brings(y, "a", GET, 1, 3);
         brings(y, "ab", GET, 2, 3);
+        due.by("LETTERS left, however many a MOUNT's SEGMENTS took");
+        RoutesByTries z = Due.told("m01/a/b;r10/*;r00/*;m01;k151;");
+        brings(z, "ab", GET, 1, 4);
+        brings(z, "aba", GET, 1, 4);
+        brings(z, "abaa", GET, 2, 4);
+        Due.tell(z, "x2;");
+        brings(z, "", GET, 1, 2);
+        brings(z, "c", GET, 1, 2);
+        brings(z, "cc", GET, -9, 2);
         due.by("only a SHORT one feels its FIGURE");
         for (int kind = 0; kind <= 4; kind++) {
             y.kind(1, kind, 0);
